@@ -281,7 +281,7 @@ public final class SettleHouse {
         return wholly;
     }
 
-    /** What settles changes neither the order of the other groups nor whether they are ready, so once a day is enough. */
+    /** Settling changes neither the order of the other groups nor whether they are ready: once a day is enough. */
     private void gatherReadyGroups() {
         readyGroups.clear();
         for (int i = 0; i < trades.size(); i++) {
@@ -316,15 +316,14 @@ public final class SettleHouse {
     private boolean isCovered(Group group) {
         for (int i = 0; i < group.members.size(); i++) {
             Terms terms = group.members.get(i).terms;
-            if (isShort(group, terms.deliverer, terms.security) || isShort(group, terms.receiver, NONE)) {
+            int security = terms.security;
+            long holdings = vault.held(terms.deliverer, security) + group.changeOf(terms.deliverer, security);
+            long cash = vault.held(terms.receiver, NONE) + group.changeOf(terms.receiver, NONE);
+            if (holdings < 0 || cash < 0) {
                 return false;
             }
         }
         return true;
-    }
-
-    private boolean isShort(Group group, int party, int asset) {
-        return vault.held(party, asset) + group.changeOf(party, asset) < 0;
     }
 
     private int settleWholly(Group group) {
@@ -459,25 +458,21 @@ public final class SettleHouse {
 
     /** What every party has: cash in the first place of its row, then the securities. */
     private static final class Vault {
-        private final long[] cells = new long[PARTIES * ASSETS];
+        private final long[][] cells = new long[PARTIES][ASSETS];
         private final long[] funded = new long[ASSETS];
 
-        private static int cell(int party, int asset) {
-            return party * ASSETS + asset - NONE;
-        }
-
         private long held(int party, int asset) {
-            return cells[cell(party, asset)];
+            return cells[party][asset - NONE];
         }
 
         private void bring(int party, int asset, int n) {
-            cells[cell(party, asset)] += n;
+            cells[party][asset - NONE] += n;
             funded[asset - NONE] += n;
         }
 
         private void move(int from, int to, int asset, int n) {
-            cells[cell(from, asset)] -= n;
-            cells[cell(to, asset)] += n;
+            cells[from][asset - NONE] -= n;
+            cells[to][asset - NONE] += n;
         }
 
         private boolean isAstray(int asset) {

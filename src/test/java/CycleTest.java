@@ -138,6 +138,15 @@ public final class CycleTest {
         y.hold(held, 0, true);
         y.nextDay();
         Check.due("a hold keeps from parts too", 20, () -> y.trade(held, 2));
+
+        SettleHouse z = new SettleHouse();
+        int late = Scene.pending(z, 0, 1, 20, 0);
+        z.nextDay();
+        z.hold(late, 0, true);
+        z.fund(0, 0, 20);
+        Check.due("a hold on what was ready the day before", 0, () -> z.goTo(4));
+        z.hold(late, 0, false);
+        Check.due("and off again", 1, z::nextDay);
     }
 
     private static void orderByPriority() {

@@ -2,12 +2,11 @@ import java.time.LocalDate;
 
 /** Promises 3 (holiday), 9 (nextDay), 10 (goTo), 14 (business) and 15 (date). */
 public final class DaysTest {
-    private static final int CASH = SettleHouse.NONE;
-
     public static void main(String[] args) {
         holiday();
         nextDay();
         theLastDay();
+        goToTheLastDay();
         goTo();
         goToRefuses();
         business();
@@ -73,6 +72,7 @@ public final class DaysTest {
         Check.badState("nextDay on the last day", x::nextDay);
         Check.due("it is still today", 20000, () -> x.date(4));
         Check.badArgument("goTo on the last day", () -> x.goTo(20001));
+        Check.badArgument("goTo the last day on it", () -> x.goTo(20000));
         Check.badArgument("holiday on the last day", () -> x.holiday(20001));
         Check.due("the last year", 2024, () -> x.date(0));
         Check.due("the last month", 10, () -> x.date(1));
@@ -81,6 +81,15 @@ public final class DaysTest {
         x.tell(0, 1, true, 0, 1, 0, 20000, 10);
         x.tell(1, 0, false, 0, 1, 0, 20000, 10);
         Check.due("a due day behind the last day", 20014, () -> x.trade(0, 1));
+    }
+
+    private static void goToTheLastDay() {
+        SettleHouse x = new SettleHouse();
+        for (int day = 400; day < 20000; day += 400) {
+            x.goTo(day);
+        }
+        Check.due("goTo the last day", 0, () -> x.goTo(20000));
+        Check.due("it is the last day", 20000, () -> x.date(4));
     }
 
     private static void goTo() {

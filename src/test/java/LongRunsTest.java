@@ -1,4 +1,9 @@
+import java.lang.reflect.InvocationTargetException;
+import java.lang.reflect.Method;
+import java.lang.reflect.Modifier;
 import java.util.Arrays;
+import java.util.HashMap;
+import java.util.Map;
 import java.util.Random;
 
 /** Runs of 512 calls drawn from written seeds, each answer compared with PlainHouse. */
@@ -14,6 +19,9 @@ public final class LongRunsTest {
         {12, 1, 60, 6, 16, 30, 5, 9, 0, 6, 16, 6, 1, 1, 2, 1},
         {14, 8, 40, 3, 10, 4, 2, 30, 14, 4, 14, 6, 8, 12, 2, 1},
     };
+
+    private static final Map<String, Method> HOUSE = methodsOf(SettleHouse.class);
+    private static final Map<String, Method> PLAIN = methodsOf(PlainHouse.class);
 
     private final Random random;
     private final int[] weights;
@@ -37,8 +45,10 @@ public final class LongRunsTest {
             LongRunsTest run = new LongRunsTest(seed);
             for (int i = 0; i < CALLS; i++) {
                 int[] call = run.draw();
-                Object want = Check.outcome(() -> onPlain(run.plain, call));
-                Check.due("seed " + seed + ", call " + i + ", " + text(call), want, () -> onHouse(run.house, call));
+                String name = NAMES[call[0]];
+                Object want = Check.outcome(() -> answer(PLAIN.get(name), run.plain, call));
+                Check.due("seed " + seed + ", call " + i + ", " + text(call), want,
+                        () -> answer(HOUSE.get(name), run.house, call));
             }
         }
         Check.finish();
@@ -118,45 +128,28 @@ public final class LongRunsTest {
         return lastTold.clone();
     }
 
-    private static Object onHouse(SettleHouse x, int[] c) {
-        switch (c[0]) {
-            case 0: return x.fund(c[1], c[2], c[3]);
-            case 1: return x.holiday(c[1]);
-            case 2: return x.tell(c[1], c[2], c[3] == 1, c[4], c[5], c[6], c[7], c[8]);
-            case 3: return x.hold(c[1], c[2], c[3] == 1);
-            case 4: return x.rank(c[1], c[2], c[3] == 1);
-            case 5: return x.link(c[1], c[2]);
-            case 6: return x.cancel(c[1], c[2]);
-            case 7: return x.nextDay();
-            case 8: return x.goTo(c[1]);
-            case 9: return x.has(c[1], c[2]);
-            case 10: return x.trade(c[1], c[2]);
-            case 11: return x.settled(c[1], c[2]);
-            case 12: return x.business(c[1], c[2]);
-            case 13: return x.date(c[1]);
-            case 14: return x.count(c[1]);
-            default: return x.astray();
+    private static Map<String, Method> methodsOf(Class<?> type) {
+        Map<String, Method> methods = new HashMap<>();
+        for (Method method : type.getDeclaredMethods()) {
+            if (!Modifier.isPrivate(method.getModifiers())) {
+                methods.put(method.getName(), method);
+            }
         }
+        return methods;
     }
 
-    private static Object onPlain(PlainHouse x, int[] c) {
-        switch (c[0]) {
-            case 0: return x.fund(c[1], c[2], c[3]);
-            case 1: return x.holiday(c[1]);
-            case 2: return x.tell(c[1], c[2], c[3] == 1, c[4], c[5], c[6], c[7], c[8]);
-            case 3: return x.hold(c[1], c[2], c[3] == 1);
-            case 4: return x.rank(c[1], c[2], c[3] == 1);
-            case 5: return x.link(c[1], c[2]);
-            case 6: return x.cancel(c[1], c[2]);
-            case 7: return x.nextDay();
-            case 8: return x.goTo(c[1]);
-            case 9: return x.has(c[1], c[2]);
-            case 10: return x.trade(c[1], c[2]);
-            case 11: return x.settled(c[1], c[2]);
-            case 12: return x.business(c[1], c[2]);
-            case 13: return x.date(c[1]);
-            case 14: return x.count(c[1]);
-            default: return x.astray();
+    private static Object answer(Method method, Object target, int[] call) {
+        Object[] arguments = new Object[call.length - 1];
+        for (int i = 0; i < arguments.length; i++) {
+            boolean isFlag = method.getParameterTypes()[i] == boolean.class;
+            arguments[i] = isFlag ? (Object) (call[i + 1] == 1) : (Object) call[i + 1];
+        }
+        try {
+            return method.invoke(target, arguments);
+        } catch (InvocationTargetException e) {
+            throw (RuntimeException) e.getCause();
+        } catch (IllegalAccessException e) {
+            throw new AssertionError(e);
         }
     }
 }

@@ -1,11 +1,6 @@
 /** Short ways to bring a house into the state that a test begins with. */
 final class Scene {
     static final int CASH = SettleHouse.NONE;
-    static final int UNMATCHED = 0;
-    static final int PENDING = 1;
-    static final int SETTLED = 2;
-    static final int CANCELLED = 3;
-    static final int EXPIRED = 4;
 
     private Scene() {
     }
