@@ -7,6 +7,7 @@ public final class FundsTest {
         fund();
         fundRefuses();
         fundAboveTheLimit();
+        fundAboveTheLimitByTrades();
         has();
         astray();
         Check.finish();
@@ -80,6 +81,25 @@ public final class FundsTest {
         Check.badArgument("the argument goes before the state", () -> x.fund(2, CASH, 0));
         Check.due("another asset has its own limit", 1, () -> x.fund(2, 0, 1));
         Check.due("another party has its own limit", 1, () -> x.fund(1, CASH, 1));
+    }
+
+    /** What a party got by trades counts as well; a trade itself may bring it above the limit. */
+    private static void fundAboveTheLimitByTrades() {
+        SettleHouse x = new SettleHouse();
+        for (int i = 0; i < 1000; i++) {
+            x.fund(2, CASH, 1000000000);
+        }
+        x.fund(1, CASH, 1);
+        Scene.pending(x, 2, 1, 0, 1);
+        Check.due("one more by a trade", 1, x::nextDay);
+        Check.due("it is above the limit", 1000000000001L, () -> x.has(2, CASH));
+        Check.badState("fund above it", () -> x.fund(2, CASH, 1));
+        Scene.pending(x, 1, 2, 0, 2);
+        x.goTo(4);
+        Check.due("two less by a trade", 999999999999L, () -> x.has(2, CASH));
+        Check.badState("two would be above it", () -> x.fund(2, CASH, 2));
+        Check.due("one is not", 1000000000000L, () -> x.fund(2, CASH, 1));
+        Check.due("astray", 0, x::astray);
     }
 
     private static void has() {

@@ -18,7 +18,6 @@ public final class TradesTest {
         closedTradesRefuse();
         trade();
         count();
-        refusedCallsChangeNothing();
         Check.finish();
     }
 
@@ -314,46 +313,5 @@ public final class TradesTest {
             x.tell(0, 1, true, 0, 4, 0, 0, 0);
         }
         Check.due("of each state", "54132", () -> "" + x.count(0) + x.count(1) + x.count(2) + x.count(3) + x.count(4));
-    }
-
-    private static SettleHouse smallHouse() {
-        SettleHouse x = new SettleHouse();
-        x.fund(0, 0, 5);
-        x.fund(1, CASH, 50);
-        x.holiday(6);
-        Scene.pending(x, 0, 1, 3, 30);
-        x.nextDay();
-        for (int i = 0; i < 4; i++) {
-            Scene.pending(x, 1, 2, 4, 40);
-        }
-        x.tell(2, 3, true, 0, 1, 1, 0, 0);
-        x.link(1, 2);
-        return x;
-    }
-
-    private static void refusedCallsChangeNothing() {
-        SettleHouse x = smallHouse();
-        Object[] refused = {
-            Check.outcome(() -> x.fund(0, 0, 0)),
-            Check.outcome(() -> x.fund(0, 9, 1)),
-            Check.outcome(() -> x.holiday(1)),
-            Check.outcome(() -> x.holiday(20001)),
-            Check.outcome(() -> x.tell(2, 3, true, 0, 1, 1, 2, 0)),
-            Check.outcome(() -> x.tell(3, 2, false, 0, 1, 1, 0, 11)),
-            Check.outcome(() -> x.hold(0, 0, true)),
-            Check.outcome(() -> x.hold(1, 0, true)),
-            Check.outcome(() -> x.rank(0, 2, true)),
-            Check.outcome(() -> x.rank(1, 4, true)),
-            Check.outcome(() -> x.link(1, 5)),
-            Check.outcome(() -> x.link(0, 1)),
-            Check.outcome(() -> x.cancel(0, 0)),
-            Check.outcome(() -> x.cancel(5, 0)),
-            Check.outcome(() -> x.goTo(1)),
-            Check.outcome(() -> x.goTo(402)),
-        };
-        for (Object one : refused) {
-            Check.due("it is refused", true, () -> one.toString().startsWith("throws.Illegal"));
-        }
-        Check.due("refused calls change nothing", Scene.picture(smallHouse()), () -> Scene.picture(x));
     }
 }
