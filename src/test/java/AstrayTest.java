@@ -1,95 +1,108 @@
-import java.lang.reflect.Field;
-
 /**
- * Promise 17 (astray). No run of calls can make its answer other than 0, so what parties have is changed here from
- * outside: in the rows where SettleHouse keeps it, cash first.
+ * Promise 17 (astray). No run of calls can make its answer other than 0, so what parties have is changed here behind the
+ * back of the house. One that keeps it in no long is not looked at.
  */
 public final class AstrayTest {
     private static final int CASH = SettleHouse.NONE;
 
-    public static void main(String[] args) throws ReflectiveOperationException {
+    public static void main(String[] args) throws IllegalAccessException {
+        Check.dueTo("For how many securities, and cash, holdings are not what was funded, or somebody has less than nothing.");
         asItShouldBe();
-        notWhatWasFunded();
-        lessThanNothing();
-        bothAtOnce();
-        allOfThem();
+        if (new Cells(house(CASH)).change(3, CASH, 1)) {
+            notWhatWasFunded();
+            lessThanNothing();
+            bothAtOnce();
+            allOfThem();
+        } else {
+            System.out.println("no place was found where a party's cash is kept");
+        }
         Check.finish();
     }
 
-    private static SettleHouse house() {
+    /** Everybody has of one security, each another number of it; some of it was settled wholly, and some in part. */
+    private static SettleHouse house(int security) {
         SettleHouse x = new SettleHouse();
-        for (int security = CASH; security < 8; security++) {
-            x.fund(3, security, 10);
-            x.fund(15, security, 1000000000);
+        for (int party = 0; party < 16; party++) {
+            x.fund(party, security, 1000 + party * party);
         }
-        Scene.pending(x, 3, 15, 7, 4, 5);
-        x.rank(Scene.pending(x, 3, 15, 0, 40, 5), 1, true);
+        x.fund(15, 7, 10);
+        x.fund(3, CASH, 10);
+        Scene.pending(x, 15, 3, 7, 4, 5);
+        x.rank(Scene.pending(x, 15, 3, 7, 9000, 5), 1, true);
         x.nextDay();
         return x;
     }
 
-    private static void change(SettleHouse x, int party, int security, long by) throws ReflectiveOperationException {
-        Field vault = SettleHouse.class.getDeclaredField("vault");
-        vault.setAccessible(true);
-        Field cells = vault.get(x).getClass().getDeclaredField("cells");
-        cells.setAccessible(true);
-        ((long[][]) cells.get(vault.get(x)))[party][security + 1] += by;
-    }
-
     private static void asItShouldBe() {
         Check.due("new", 0, () -> new SettleHouse().astray());
-        Check.due("funded, settled wholly and in part", 0, () -> house().astray());
+        for (int security = CASH; security < 8; security++) {
+            SettleHouse x = house(security);
+            Check.due("funded, settled wholly and in part", "2 1 0", () -> x.trade(0, 0) + " " + x.trade(1, 0) + " " + x.astray());
+        }
     }
 
     /** "holdings are not what was funded": one too many or one too few, with any party, of any security. */
-    private static void notWhatWasFunded() throws ReflectiveOperationException {
+    private static void notWhatWasFunded() throws IllegalAccessException {
         for (int security = CASH; security < 8; security++) {
+            SettleHouse x = house(security);
+            Cells cells = new Cells(x);
             for (int party = 0; party < 16; party++) {
-                SettleHouse x = house();
-                change(x, party, security, 1);
-                Check.due("one too many of " + security + " with " + party, 1, x::astray);
+                String of = " of " + security + " with " + party;
+                cells.change(party, security, 1);
+                Check.due("one too many" + of, 1, x::astray);
+                cells.change(party, security, -2);
+                Check.due("one too few" + of, 1, x::astray);
+                cells.change(party, security, 1);
+                Check.due("neither" + of, 0, x::astray);
             }
-            SettleHouse x = house();
-            change(x, 15, security, -1);
-            Check.due("one too few of " + security, 1, x::astray);
         }
     }
 
     /** "or somebody has less than nothing", though all together have what was funded. */
-    private static void lessThanNothing() throws ReflectiveOperationException {
+    private static void lessThanNothing() throws IllegalAccessException {
         for (int security = CASH; security < 8; security++) {
-            for (int party = 0; party < 15; party++) {
-                SettleHouse x = house();
-                long toNothing = x.has(party, security);
-                change(x, party, security, -toNothing);
-                change(x, 15, security, toNothing);
+            SettleHouse x = house(security);
+            Cells cells = new Cells(x);
+            for (int party = 0; party < 16; party++) {
+                int other = (party + 1) % 16;
+                long all = x.has(party, security);
+                move(cells, party, other, security, all);
                 Check.due("party " + party + " has just nothing of " + security, 0, x::astray);
-                change(x, party, security, -1);
-                change(x, 15, security, 1);
+                move(cells, party, other, security, 1);
                 Check.due("party " + party + " has less than nothing of " + security, 1, x::astray);
+                move(cells, other, party, security, all + 1);
             }
+            Check.due("as it should be again", 0, x::astray);
         }
     }
 
-    private static void bothAtOnce() throws ReflectiveOperationException {
-        SettleHouse x = house();
-        change(x, 0, CASH, -1);
-        Check.due("less than nothing, and not what was funded", 1, x::astray);
-        change(x, 1, CASH, -1);
-        Check.due("of two parties", 1, x::astray);
-        change(x, 15, CASH, 2);
-        Check.due("all together have what was funded", 1, x::astray);
-        change(x, 0, CASH, 1);
-        change(x, 1, CASH, 1);
-        change(x, 15, CASH, -2);
-        Check.due("as it should be again", 0, x::astray);
+    private static void move(Cells cells, int from, int to, int security, long n) throws IllegalAccessException {
+        cells.change(from, security, -n);
+        cells.change(to, security, n);
     }
 
-    private static void allOfThem() throws ReflectiveOperationException {
-        SettleHouse x = house();
+    private static void bothAtOnce() throws IllegalAccessException {
+        SettleHouse x = house(CASH);
+        Cells cells = new Cells(x);
+        cells.change(0, CASH, -1001);
+        Check.due("less than nothing, and not what was funded", 1, x::astray);
+        cells.change(1, CASH, -1003);
+        Check.due("of two parties", 1, x::astray);
+        cells.change(14, CASH, 2004);
+        Check.due("all together have what was funded", 1, x::astray);
+    }
+
+    /** One security after the other, and cash, each with another party. */
+    private static void allOfThem() throws IllegalAccessException {
+        SettleHouse x = new SettleHouse();
+        for (int security = CASH; security < 8; security++) {
+            x.fund(security + 1, security, 100 + security);
+        }
+        x.fund(0, 0, 1000);
+        Cells cells = new Cells(x);
         for (int security = CASH; security < 8; security++) {
             int found = security + 2;
-            change(x, security + 1, security, 1);
+            cells.change(security + 1, security, 1);
             Check.due("so many are astray", found, x::astray);
         }
     }

@@ -2,6 +2,7 @@
 final class Check {
     private static int asked = 0;
     private static int wrong = 0;
+    private static String words = "";
 
     private Check() {
     }
@@ -11,12 +12,17 @@ final class Check {
         Object answer();
     }
 
+    /** The words of the document that the answers asked from here on are due to. */
+    static void dueTo(String quote) {
+        words = "\"" + quote + "\": ";
+    }
+
     static void due(String what, Object want, Call call) {
         Object got = outcome(call);
         asked++;
         if (!String.valueOf(want).equals(String.valueOf(got))) {
             wrong++;
-            System.out.println(what + ": answered " + got + ", due is " + want);
+            System.out.println(words + what + ": answered " + got + ", due is " + want);
         }
     }
 

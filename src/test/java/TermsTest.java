@@ -1,4 +1,4 @@
-/** The sentences of "Terms", each with the last case that is still so and the first that is not. */
+/** The sentences of "Terms", quoted one by one, each with the last case that is still so and the first that is not. */
 public final class TermsTest {
     private static final int CASH = SettleHouse.NONE;
 
@@ -7,13 +7,17 @@ public final class TermsTest {
         neverBelowNothing();
         theFirstDay();
         businessDays();
+        whatTermsAre();
+        whereCashGoes();
         numbersOfTrades();
+        states();
         dueDayWithoutLag();
         dueDayWithLag();
         dueDayByHolidaysKnownThen();
         holdOfEitherSide();
         wishOfEitherSide();
         atFirst();
+        atFirstAlone();
         leavingAGroup();
         readyByDueDay();
         readyByHolds();
@@ -35,11 +39,20 @@ public final class TermsTest {
         partsDownward();
         failsWhenDue();
         theTenthFail();
+        badArguments();
+        badStates();
+        bothFit();
+        throwingChangesNothing();
+        Document.isQuoted("Terms");
         Check.finish();
     }
 
-    /** "PARTIES are 0 .. 15, each with CASH and HOLDINGS of SECURITIES 0 .. 7, at first nothing." */
+    private static void says(String words) {
+        Document.says("Terms", words);
+    }
+
     private static void partiesAndSecurities() {
+        says("PARTIES are 0 .. 15, each with CASH and HOLDINGS of SECURITIES 0 .. 7, at first nothing;");
         SettleHouse x = new SettleHouse();
         for (int party = 0; party < 16; party++) {
             for (int security = CASH; security < 8; security++) {
@@ -64,8 +77,9 @@ public final class TermsTest {
         Check.due("one was delivered", "136 9", () -> x.has(15, 0) + " " + x.has(0, 6));
     }
 
-    /** "never below 0": what is settled leaves just nothing, or is not settled. */
+    /** What is settled leaves just nothing, or is not settled. */
     private static void neverBelowNothing() {
+        says("never below 0.");
         for (int lack = 0; lack < 2; lack++) {
             SettleHouse x = new SettleHouse();
             x.fund(0, 0, 10 - lack);
@@ -80,15 +94,16 @@ public final class TermsTest {
         }
     }
 
-    /** "day 0 is Thursday, the first of January 1970; today is at first 0." */
     private static void theFirstDay() {
+        says("DAYS: day 0 is Thursday, the first of January 1970; today is at first 0.");
         SettleHouse x = new SettleHouse();
         Check.due("year, month, day, weekday, number", "1970 1 1 4 0",
                 () -> x.date(0) + " " + x.date(1) + " " + x.date(2) + " " + x.date(3) + " " + x.date(4));
     }
 
-    /** "A BUSINESS DAY is no Saturday, no Sunday, and no HOLIDAY": with each day one trade more. */
+    /** With each day one trade more. */
     private static void businessDays() {
+        says("A BUSINESS DAY is no Saturday, no Sunday, and no HOLIDAY.");
         SettleHouse x = new SettleHouse();
         x.fund(0, 0, 100);
         x.holiday(6);
@@ -101,8 +116,39 @@ public final class TermsTest {
         }
     }
 
-    /** "TRADES have numbers 0, 1, .., 150 at most." */
+    private static void whatTermsAre() {
+        says("TERMS are who delivers, who receives, a security, a quantity,");
+        SettleHouse x = new SettleHouse();
+        x.goTo(4);
+        x.tell(4, 9, true, 3, 20, 500, 4, 2);
+        x.tell(9, 4, true, 3, 20, 500, 4, 2);
+        Check.due("who delivers", "4 9", () -> Scene.ofEach(x, 4));
+        Check.due("who receives", "9 4", () -> Scene.ofEach(x, 5));
+        Check.due("another deliverer", 2, () -> x.tell(9, 5, false, 3, 20, 500, 4, 2));
+        Check.due("another receiver", 3, () -> x.tell(8, 4, false, 3, 20, 500, 4, 2));
+        Check.due("another security", 4, () -> x.tell(9, 4, false, 2, 20, 500, 4, 2));
+        Check.due("another quantity", 5, () -> x.tell(9, 4, false, 3, 19, 500, 4, 2));
+        Check.due("another amount", 6, () -> x.tell(9, 4, false, 3, 20, 501, 4, 2));
+        Check.due("another trade day", 7, () -> x.tell(9, 4, false, 3, 20, 500, 3, 2));
+        Check.due("another lag, though the day before it makes the due day the same", 8, () -> x.tell(9, 4, false, 3, 20, 500, 3, 3));
+        Check.due("all are alike", 0, () -> x.tell(9, 4, false, 3, 20, 500, 4, 2));
+        Check.due("just one is pending", "1 0 0 0 0 0 0 0 0", () -> Scene.ofEach(x, 0));
+    }
+
+    private static void whereCashGoes() {
+        says("an amount of cash that goes the other way, a trade day, and a lag.");
+        SettleHouse x = new SettleHouse();
+        x.fund(4, 3, 21);
+        x.fund(9, CASH, 502);
+        Scene.pendingOn(x, 4, 9, 3, 20, 500, 0, 1);
+        x.nextDay();
+        Check.due("the deliverer has", "1 500", () -> x.has(4, 3) + " " + x.has(4, CASH));
+        Check.due("the receiver has", "20 2", () -> x.has(9, 3) + " " + x.has(9, CASH));
+        Check.due("on the trade day and the lag", 1, () -> x.trade(0, 1));
+    }
+
     private static void numbersOfTrades() {
+        says("TRADES have numbers 0, 1, .., 150 at most.");
         SettleHouse x = new SettleHouse();
         for (int i = 0; i < 75; i++) {
             int number = i;
@@ -118,8 +164,30 @@ public final class TermsTest {
         Check.due("states", "75 74 0 1 0", () -> x.count(0) + " " + x.count(1) + " " + x.count(2) + " " + x.count(3) + " " + x.count(4));
     }
 
-    /** "Its DUE DAY is reckoned when both have told it: the trade day", be it a business day or none. */
+    private static void states() {
+        says("Each is UNMATCHED (0), as long as only one side has told it; PENDING (1); SETTLED (2), CANCELLED (3), or EXPIRED (4).");
+        SettleHouse x = new SettleHouse();
+        x.fund(0, 0, 1);
+        x.tell(0, 1, true, 0, 1, 0, 0, 0);
+        x.tell(0, 1, true, 0, 1, 0, 0, 0);
+        Check.due("one side has told both", "0 0", () -> Scene.ofEach(x, 0));
+        x.goTo(14);
+        Check.due("as long as only one has", "0 0", () -> Scene.ofEach(x, 0));
+        x.tell(1, 0, false, 0, 1, 0, 0, 0);
+        Check.due("both have told the first", "1 0", () -> Scene.ofEach(x, 0));
+        x.nextDay();
+        Check.due("it is settled", "2 0", () -> Scene.ofEach(x, 0));
+        x.tell(1, 0, false, 0, 1, 0, 0, 0);
+        Scene.cancelByBoth(x, Scene.pending(x, 0, 1, 1, 0));
+        Check.due("one is pending, one cancelled", "2 1 3", () -> Scene.ofEach(x, 0));
+        x.goTo(29);
+        Check.due("one has expired", "2 4 3", () -> Scene.ofEach(x, 0));
+        Check.due("how many of each", "0 0 1 1 1", () -> x.count(0) + " " + x.count(1) + " " + x.count(2) + " " + x.count(3) + " " + x.count(4));
+    }
+
+    /** Be it a business day or none. */
     private static void dueDayWithoutLag() {
+        says("Its DUE DAY is reckoned when both have told it: the trade day,");
         SettleHouse x = new SettleHouse();
         x.holiday(5);
         x.goTo(6);
@@ -132,8 +200,8 @@ public final class TermsTest {
         }
     }
 
-    /** "or for a lag above 0 the business day that comes so many times next". */
     private static void dueDayWithLag() {
+        says("or for a lag above 0 the business day that comes so many times next,");
         SettleHouse x = new SettleHouse();
         x.holiday(5);
         x.goTo(6);
@@ -148,8 +216,8 @@ public final class TermsTest {
         }
     }
 
-    /** "by the holidays that are known then". */
     private static void dueDayByHolidaysKnownThen() {
+        says("by the holidays that are known then.");
         SettleHouse x = new SettleHouse();
         int before = Scene.pendingOn(x, 0, 1, 0, 1, 0, 0, 2);
         int between = x.tell(0, 1, true, 0, 2, 0, 0, 2);
@@ -162,8 +230,8 @@ public final class TermsTest {
         Check.due("both are, once it is a business day", 2, x::nextDay);
     }
 
-    /** "A trade has, of either side, a HOLD, or none". */
     private static void holdOfEitherSide() {
+        says("A trade has, of either side, a HOLD, or none,");
         SettleHouse x = new SettleHouse();
         x.fund(4, 0, 1);
         int trade = Scene.pending(x, 4, 9, 1, 0);
@@ -177,8 +245,9 @@ public final class TermsTest {
         Check.due("no hold", 1, () -> x.goTo(4));
     }
 
-    /** "and a WISH to cancel it, or none", of either side; the same side's second wish is not the other's. */
+    /** The same side's second wish is not the other's. */
     private static void wishOfEitherSide() {
+        says("and a WISH to cancel it, or none;");
         SettleHouse x = new SettleHouse();
         int one = Scene.pending(x, 4, 9, 1, 0);
         int other = Scene.pending(x, 4, 9, 1, 0);
@@ -186,17 +255,41 @@ public final class TermsTest {
         Check.due("the receiver first", "1 1 3", () -> x.cancel(other, 9) + " " + x.cancel(other, 9) + " " + x.cancel(other, 4));
     }
 
-    /** "a PRIORITY 0 .. 3, at first 1; perhaps it may be settled IN PARTS; and FAILS, at first 0"; "at first each alone". */
     private static void atFirst() {
+        says("a PRIORITY 0 .. 3, at first 1; perhaps it may be settled IN PARTS; and FAILS, at first 0.");
         SettleHouse x = new SettleHouse();
         x.tell(4, 9, true, 3, 20, 500, 0, 0);
-        Check.due("unmatched: in no group", "0 -1 20 500 4 9 3 0 1 0 0", () -> Scene.tradeRow(x, 0));
+        Check.due("unmatched", "0 -1 20 500 4 9 3 0 1 0 0", () -> Scene.tradeRow(x, 0));
         x.tell(9, 4, false, 3, 20, 500, 0, 0);
-        Check.due("pending: alone", "1 0 20 500 4 9 3 0 1 1 0", () -> Scene.tradeRow(x, 0));
+        Check.due("pending", "1 0 20 500 4 9 3 0 1 1 0", () -> Scene.tradeRow(x, 0));
+        Check.badArgument("a priority below 0", () -> x.rank(0, -1, true));
+        Check.badArgument("a priority above 3", () -> x.rank(0, 4, true));
+        for (int priority = 0; priority <= 3; priority++) {
+            int p = priority;
+            int before = priority == 0 ? 1 : priority - 1;
+            Check.due("priority " + p, before, () -> x.rank(0, p, p % 2 == 0));
+            Check.due("it has it", p + " " + (1 - p % 2), () -> x.trade(0, 8) + " " + x.trade(0, 10));
+        }
+        x.nextDay();
+        Check.due("a first fail", 1, () -> x.trade(0, 7));
     }
 
-    /** "one that is not pending any more leaves its group": settled, cancelled, or expired. */
+    private static void atFirstAlone() {
+        says("Pending trades stand in GROUPS, at first each alone;");
+        SettleHouse x = new SettleHouse();
+        x.fund(0, 0, 5);
+        x.tell(0, 1, true, 0, 5, 0, 0, 0);
+        Check.due("unmatched: in no group", 0, () -> x.trade(0, 9));
+        x.tell(1, 0, false, 0, 5, 0, 0, 0);
+        Scene.pending(x, 0, 1, 6, 0);
+        Check.due("pending: alone", "1 1", () -> Scene.ofEach(x, 9));
+        Check.due("one does not wait for the other", 1, x::nextDay);
+        Check.due("the other one is alone still", "0 1", () -> Scene.ofEach(x, 9));
+    }
+
+    /** Settled, cancelled, or expired. */
     private static void leavingAGroup() {
+        says("one that is not pending any more leaves its group.");
         SettleHouse x = new SettleHouse();
         x.fund(0, 0, 2);
         x.link(Scene.pending(x, 0, 1, 1, 0), Scene.pending(x, 0, 1, 1, 0));
@@ -216,8 +309,8 @@ public final class TermsTest {
         Check.due("states", "2 2 4 3 4", () -> Scene.ofEach(x, 0));
     }
 
-    /** "A group is READY, if all its trades are due today or before". */
     private static void readyByDueDay() {
+        says("A group is READY, if all its trades are due today or before,");
         SettleHouse x = new SettleHouse();
         x.fund(0, 0, 9);
         Scene.pendingOn(x, 0, 1, 0, 1, 0, 0, 0);
@@ -237,8 +330,9 @@ public final class TermsTest {
         Check.due("by their due days", "2 3 0 1", () -> Scene.settledTrades(y));
     }
 
-    /** "and none has a hold": each side of each trade of a group. */
+    /** Each side of each trade of a group. */
     private static void readyByHolds() {
+        says("and none has a hold;");
         for (int held = 0; held < 3; held++) {
             for (int party = 0; party < 2; party++) {
                 SettleHouse x = new SettleHouse();
@@ -257,8 +351,8 @@ public final class TermsTest {
         }
     }
 
-    /** "COVERED, if no party would have cash or holdings below 0, were all its trades settled at once." */
     private static void coveredByHoldings() {
+        says("COVERED, if no party would have cash or holdings below 0, were all its trades settled at once.");
         for (int lack = 0; lack < 2; lack++) {
             SettleHouse x = new SettleHouse();
             x.fund(0, 0, 10 - lack);
@@ -333,8 +427,8 @@ public final class TermsTest {
         }
     }
 
-    /** "Groups go by the greatest priority of their trades, the greater one first". */
     private static void orderOfPriorities() {
+        says("Groups go by the greatest priority of their trades, the greater one first,");
         SettleHouse x = new SettleHouse();
         x.fund(0, 0, 9);
         int[] priorities = {0, 2, 1, 3};
@@ -368,8 +462,8 @@ public final class TermsTest {
         }
     }
 
-    /** "then by the least number of these". */
     private static void orderWithinAPriority() {
+        says("then by the least number of these.");
         SettleHouse x = new SettleHouse();
         x.fund(0, 0, 9);
         for (int i = 0; i < 6; i++) {
@@ -397,8 +491,9 @@ public final class TermsTest {
         Check.due("who comes first takes what there is", "2 1 2", () -> Scene.ofEach(z, 0));
     }
 
-    /** "the covered ones are settled, each of their trades by numbers", whatever their priorities and links. */
+    /** Whatever their priorities and links. */
     private static void byNumbersWithinAGroup() {
+        says("and the covered ones are settled, each of their trades by numbers;");
         SettleHouse x = new SettleHouse();
         x.fund(0, 0, 9);
         for (int i = 0; i < 6; i++) {
@@ -413,8 +508,9 @@ public final class TermsTest {
         Check.due("by numbers", "0 1 2 3 4 5", () -> Scene.settledTrades(x));
     }
 
-    /** "all ready groups are gone through in that order, ...; again and again": a round goes to its end first. */
+    /** A round goes to its end before the next one. */
     private static void againAndAgain() {
+        says("THE CYCLE of a business day: all ready groups are gone through in that order,");
         SettleHouse x = new SettleHouse();
         x.fund(3, 0, 5);
         x.fund(4, 1, 5);
@@ -427,10 +523,11 @@ public final class TermsTest {
     }
 
     /**
-     * "until none is settled so": 149 trades, of which each is covered just when the one behind it has been settled, so
-     * that there are 149 rounds. Party 0 lends each other party all that it has of a security, and gets back one more.
+     * 149 trades, of which each is covered just when the one behind it has been settled, so that there are 149 rounds.
+     * Party 0 lends each other party all that it has of a security, and gets back one more.
      */
     private static void untilNoneIsSettled() {
+        says("again and again, until none is settled so.");
         SettleHouse x = new SettleHouse();
         x.fund(0, CASH, 5);
         int[][] steps = new int[150][];
@@ -457,8 +554,9 @@ public final class TermsTest {
         Check.due("the last one", "0 1 0", () -> x.settled(148, 0) + " " + x.settled(148, 3) + " " + x.trade(0, 7));
     }
 
-    /** "with k the greatest quantity ... of which the deliverer has enough": all it has, and none if it has none. */
+    /** All it has, and none if it has none. */
     private static void partsOfTheDeliverer() {
+        says("with k the greatest quantity below its own of which the deliverer has enough,");
         int[][] cases = {{0, 0}, {1, 1}, {2, 2}, {8, 8}, {9, 9}};
         for (int[] c : cases) {
             SettleHouse x = new SettleHouse();
@@ -473,8 +571,8 @@ public final class TermsTest {
         }
     }
 
-    /** "and the receiver has the amount, times k, by the quantity, downward". */
     private static void partsOfTheReceiver() {
+        says("and the receiver has the amount, times k, by the quantity, downward:");
         int[][] of70 = {{0, 0, 0}, {6, 0, 0}, {7, 1, 7}, {13, 1, 7}, {14, 2, 14}, {62, 8, 56}, {63, 9, 63}, {69, 9, 63}};
         for (int[] c : of70) {
             partOfTen(70, c[0], c[1], c[2]);
@@ -502,8 +600,9 @@ public final class TermsTest {
         Check.due("the receiver has left", cash - paid, () -> x.has(1, CASH));
     }
 
-    /** "below its own", "if k is above 0": of 2 there is a part, of 1 and of 0 there is none. */
+    /** Of 2 there is a part, of 1 and of 0 there is none. */
     private static void partsBelowTheQuantity() {
+        says("if k is above 0, that is settled, and its quantity and amount are less by it.");
         for (int quantity = 0; quantity <= 3; quantity++) {
             SettleHouse x = new SettleHouse();
             x.fund(0, 0, 9);
@@ -522,8 +621,9 @@ public final class TermsTest {
         Check.due("not the whole, though by then it would be covered", "1 3 0 1, 0 2 0 1", () -> Scene.settledRows(y));
     }
 
-    /** "once, in that order": what comes later that day is for the next one. */
+    /** What comes later that day is for the next one. */
     private static void partsOnce() {
+        says("once, in that order:");
         SettleHouse x = new SettleHouse();
         x.fund(0, 0, 3);
         x.rank(Scene.pending(x, 1, 2, 9, 0), 2, true);
@@ -551,8 +651,8 @@ public final class TermsTest {
         Check.due("what was settled", "1 3 0 1, 0 2 0 4", () -> Scene.settledRows(y));
     }
 
-    /** "each ready trade that is alone, and may be settled in parts". */
     private static void partsAloneAndAllowed() {
+        says("Then each ready trade that is alone, and may be settled in parts,");
         SettleHouse x = new SettleHouse();
         for (int deliverer = 0; deliverer < 4; deliverer++) {
             x.fund(deliverer, 0, 5);
@@ -584,7 +684,7 @@ public final class TermsTest {
         Check.due("due, and not held", "1 5 0 1, 0 5 0 4, 2 5 0 4", () -> Scene.settledRows(x));
     }
 
-    /** "downward": and the rest is reckoned from what is left. */
+    /** What is left is the quantity and the amount of which the next part is reckoned. */
     private static void partsDownward() {
         SettleHouse x = new SettleHouse();
         x.fund(1, CASH, 100);
@@ -603,8 +703,9 @@ public final class TermsTest {
         Check.due("all of it", "20 7 80", () -> x.has(0, CASH) + " " + x.has(1, 0) + " " + x.has(1, CASH));
     }
 
-    /** "Then each pending trade that is due today or before fails once more", held, linked or settled in part too. */
+    /** Held, linked or settled in part too. */
     private static void failsWhenDue() {
+        says("Then each pending trade that is due today or before fails once more;");
         SettleHouse x = new SettleHouse();
         x.fund(1, 0, 5);
         x.fund(2, 0, 50);
@@ -624,8 +725,8 @@ public final class TermsTest {
         Check.due("on Monday", "2 2 1 2 2 2 0 0", () -> Scene.ofEach(x, 7));
     }
 
-    /** "with the tenth time it expires". */
     private static void theTenthFail() {
+        says("with the tenth time it expires.");
         SettleHouse x = new SettleHouse();
         x.rank(Scene.pending(x, 0, 1, 8, 6), 3, true);
         x.goTo(13);
@@ -643,5 +744,111 @@ public final class TermsTest {
         y.fund(0, 0, 8);
         Check.due("settled, not failed for the tenth time", 1, y::nextDay);
         Check.due("it is settled", "2 0 0 0 0 1 0 9 1 0 0", () -> Scene.tradeRow(y, 0));
+    }
+
+    /** RefusalsTest has every kind of them; here is one of each. */
+    private static void badArguments() {
+        says("IllegalArgument: there is no such party, security, trade, or another argument is none that is told.");
+        SettleHouse x = new SettleHouse();
+        Scene.pending(x, 0, 1, 1, 0);
+        for (int party : new int[] {-1, 16}) {
+            Check.badArgument("fund " + party, () -> x.fund(party, 0, 1));
+            Check.badArgument("tell " + party, () -> x.tell(party, 0, true, 0, 1, 1, 0, 0));
+            Check.badArgument("tell with " + party, () -> x.tell(0, party, true, 0, 1, 1, 0, 0));
+            Check.badArgument("hold " + party, () -> x.hold(0, party, true));
+            Check.badArgument("cancel " + party, () -> x.cancel(0, party));
+            Check.badArgument("has " + party, () -> x.has(party, 0));
+        }
+        for (int security : new int[] {-2, 8}) {
+            Check.badArgument("fund of " + security, () -> x.fund(0, security, 1));
+            Check.badArgument("tell of " + security, () -> x.tell(0, 1, true, security, 1, 1, 0, 0));
+            Check.badArgument("has of " + security, () -> x.has(0, security));
+        }
+        Check.badArgument("cash is told by no trade", () -> x.tell(0, 1, true, CASH, 1, 1, 0, 0));
+        for (int trade : new int[] {-1, 1}) {
+            Check.badArgument("hold of " + trade, () -> x.hold(trade, 0, true));
+            Check.badArgument("rank of " + trade, () -> x.rank(trade, 1, true));
+            Check.badArgument("link of " + trade, () -> x.link(trade, 0));
+            Check.badArgument("link with " + trade, () -> x.link(0, trade));
+            Check.badArgument("cancel of " + trade, () -> x.cancel(trade, 0));
+            Check.badArgument("trade " + trade, () -> x.trade(trade, 0));
+        }
+        Check.badArgument("n", () -> x.fund(0, 0, 0));
+        Check.badArgument("quantity", () -> x.tell(0, 1, true, 0, 1000001, 0, 0, 0));
+        Check.badArgument("amount", () -> x.tell(0, 1, true, 0, 0, 1000000001, 0, 0));
+        Check.badArgument("trade day", () -> x.tell(0, 1, true, 0, 1, 0, 1, 0));
+        Check.badArgument("lag", () -> x.tell(0, 1, true, 0, 1, 0, 0, 11));
+        Check.badArgument("priority", () -> x.rank(0, 4, true));
+        Check.badArgument("what", () -> x.trade(0, 11));
+        Check.badArgument("day", () -> x.business(20001, 0));
+        Check.badArgument("so many business days", () -> x.business(0, 1001));
+        Check.badArgument("part", () -> x.date(5));
+        Check.badArgument("state", () -> x.count(5));
+    }
+
+    private static void badStates() {
+        says("IllegalState as told;");
+        SettleHouse x = closedAndOpen();
+        Check.badState("hold, neither unmatched nor pending", () -> x.hold(0, 0, true));
+        Check.badState("rank, neither unmatched nor pending", () -> x.rank(0, 1, true));
+        Check.badState("cancel, neither unmatched nor pending", () -> x.cancel(0, 0));
+        Check.badState("link, one is not pending", () -> x.link(0, 2));
+        Check.badState("link, the other is not pending", () -> x.link(2, 1));
+        Check.badState("nextDay on the last day", () -> Scene.houseOnDay(20000).nextDay());
+        SettleHouse full = fullOfTrades();
+        Check.badState("tell, there are 150", () -> full.tell(0, 1, true, 0, 2, 0, 0, 0));
+    }
+
+    private static void bothFit() {
+        says("where both fit, IllegalArgument.");
+        SettleHouse x = closedAndOpen();
+        Check.badArgument("hold of a closed one, no side of it", () -> x.hold(0, 2, true));
+        Check.badArgument("rank of a closed one, no priority", () -> x.rank(0, 4, true));
+        Check.badArgument("cancel of a closed one, no side of it", () -> x.cancel(0, 2));
+        Check.badArgument("link of a closed one with none", () -> x.link(0, 3));
+        Check.badArgument("link of none with an unmatched one", () -> x.link(3, 1));
+        SettleHouse full = fullOfTrades();
+        Check.badArgument("tell, there are 150, both are the same", () -> full.tell(1, 1, true, 0, 2, 0, 0, 0));
+        Check.badArgument("tell, there are 150, no such lag", () -> full.tell(0, 1, true, 0, 2, 0, 0, 11));
+    }
+
+    private static void throwingChangesNothing() {
+        says("A call that throws changes nothing.");
+        for (int way = 0; way < Scene.WAYS; way++) {
+            int look = way;
+            SettleHouse x = closedAndOpen();
+            Check.badArgument("fund", () -> x.fund(0, 0, 0));
+            Check.badArgument("holiday", () -> x.holiday(1));
+            Check.badArgument("tell of what would match, but for the lag", () -> x.tell(1, 0, false, 0, 2, 0, 0, 11));
+            Check.badArgument("hold", () -> x.hold(2, 5, true));
+            Check.badArgument("rank", () -> x.rank(2, 4, true));
+            Check.badArgument("cancel", () -> x.cancel(1, 5));
+            Check.badArgument("goTo", () -> x.goTo(402));
+            Check.badState("hold of a closed one", () -> x.hold(0, 0, true));
+            Check.badState("rank of a closed one", () -> x.rank(0, 3, true));
+            Check.badState("cancel of a closed one", () -> x.cancel(0, 0));
+            Check.badState("link", () -> x.link(1, 2));
+            String untouched = Scene.inside(closedAndOpen(), look);
+            Check.due("all is as it was", untouched, () -> Scene.inside(x, look));
+        }
+    }
+
+    /** On day 1: trade 0 is settled, trade 1 unmatched, trade 2 pending. */
+    private static SettleHouse closedAndOpen() {
+        SettleHouse x = new SettleHouse();
+        x.fund(0, 0, 1);
+        Scene.pending(x, 0, 1, 1, 0);
+        x.tell(0, 1, true, 0, 2, 0, 0, 0);
+        Scene.pending(x, 0, 1, 3, 0);
+        x.nextDay();
+        return x;
+    }
+
+    private static SettleHouse fullOfTrades() {
+        SettleHouse x = new SettleHouse();
+        for (int i = 0; i < 150; i++) {
+            x.tell(0, 1, true, 0, 1, 0, 0, 0);
+        }
+        return x;
     }
 }
