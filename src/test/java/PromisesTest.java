@@ -644,6 +644,8 @@ public final class PromisesTest {
         x.goTo(765);
         x.goTo(789);
         Check.due("a leap day", "1972 2 29 2 789", () -> today(x));
+        Check.due("a leap day of a full century", "2000 2 29 2 11016", () -> today(Scene.houseOnDay(11016)));
+        Check.due("the last day", "2024 10 4 5 20000", () -> today(Scene.houseOnDay(20000)));
         Check.badArgument("part below 0", () -> x.date(-1));
         Check.badArgument("part above 4", () -> x.date(5));
         Document.isQuoted(heading);

@@ -121,18 +121,20 @@ public final class TermsTest {
         SettleHouse x = new SettleHouse();
         x.goTo(4);
         x.tell(4, 9, true, 3, 20, 500, 4, 2);
-        x.tell(9, 4, true, 3, 20, 500, 4, 2);
+        x.tell(4, 9, false, 3, 20, 500, 4, 2);
         Check.due("who delivers", "4 9", () -> Scene.ofEach(x, 4));
         Check.due("who receives", "9 4", () -> Scene.ofEach(x, 5));
-        Check.due("another deliverer", 2, () -> x.tell(9, 5, false, 3, 20, 500, 4, 2));
+        Check.due("another deliverer", 2, () -> x.tell(8, 4, true, 3, 20, 500, 4, 2));
         Check.due("another receiver", 3, () -> x.tell(8, 4, false, 3, 20, 500, 4, 2));
         Check.due("another security", 4, () -> x.tell(9, 4, false, 2, 20, 500, 4, 2));
         Check.due("another quantity", 5, () -> x.tell(9, 4, false, 3, 19, 500, 4, 2));
         Check.due("another amount", 6, () -> x.tell(9, 4, false, 3, 20, 501, 4, 2));
         Check.due("another trade day", 7, () -> x.tell(9, 4, false, 3, 20, 500, 3, 2));
-        Check.due("another lag, though the day before it makes the due day the same", 8, () -> x.tell(9, 4, false, 3, 20, 500, 3, 3));
+        Check.due("another lag", 8, () -> x.tell(9, 4, false, 3, 20, 500, 4, 3));
+        Check.due("another trade day and lag, with the same due day", 9, () -> x.tell(9, 4, false, 3, 20, 500, 3, 3));
         Check.due("all are alike", 0, () -> x.tell(9, 4, false, 3, 20, 500, 4, 2));
-        Check.due("just one is pending", "1 0 0 0 0 0 0 0 0", () -> Scene.ofEach(x, 0));
+        Check.due("all are alike the other way", 1, () -> x.tell(9, 4, true, 3, 20, 500, 4, 2));
+        Check.due("just these are pending", "1 1 0 0 0 0 0 0 0 0", () -> Scene.ofEach(x, 0));
     }
 
     private static void whereCashGoes() {
@@ -380,6 +382,11 @@ public final class TermsTest {
             y.link(Scene.pending(y, 2, 1, 0, 50), Scene.pending(y, 2, 0, 0, 10));
             Check.due("another receiver has plenty, " + lack + " lack", lack == 0 ? 2 : 0, y::nextDay);
         }
+        SettleHouse z = new SettleHouse();
+        for (int i = 0; i < 3; i++) {
+            z.link(0, Scene.pending(z, 1, 0, 0, 1000000000));
+        }
+        Check.due("three of the greatest amounts, and no cash", 0, z::nextDay);
     }
 
     /** What comes in with the group counts, whatever the numbers: nobody but party 2 has anything at first. */
@@ -581,6 +588,12 @@ public final class TermsTest {
         for (int[] c : of75) {
             partOfTen(75, c[0], c[1], c[2]);
         }
+        SettleHouse x = new SettleHouse();
+        x.fund(0, 0, 1000000);
+        x.fund(1, CASH, 777777777);
+        x.rank(Scene.pending(x, 0, 1, 1000000, 1000000000), 1, true);
+        x.nextDay();
+        Check.due("of the greatest quantity and amount", "0 777777 777777000 1", () -> Scene.settledRows(x));
         int[][] of9 = {{0, 1, 0}, {1, 2, 1}, {2, 3, 2}, {7, 8, 7}, {8, 9, 8}};
         for (int[] c : of9) {
             partOfTen(9, c[0], c[1], c[2]);
