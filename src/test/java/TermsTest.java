@@ -398,6 +398,8 @@ public final class TermsTest {
             Scene.pending(x, 2, 1, 10, 0);
             x.link(0, 1);
             Check.due("through one hand, " + lack + " lack", lack == 0 ? 2 : 0, x::nextDay);
+            Check.due("who has it then, " + lack + " lack", lack == 0 ? "10 0 0" : "0 0 9",
+                    () -> x.has(0, 0) + " " + x.has(1, 0) + " " + x.has(2, 0));
 
             SettleHouse y = new SettleHouse();
             y.fund(2, CASH, 10 - lack);
@@ -405,6 +407,8 @@ public final class TermsTest {
             Scene.pending(y, 1, 2, 0, 10);
             y.link(0, 1);
             Check.due("cash through one hand, " + lack + " lack", lack == 0 ? 2 : 0, y::nextDay);
+            Check.due("who has the cash then, " + lack + " lack", lack == 0 ? "10 0 0" : "0 0 9",
+                    () -> y.has(0, CASH) + " " + y.has(1, CASH) + " " + y.has(2, CASH));
 
             SettleHouse z = new SettleHouse();
             z.fund(1, CASH, 10 - lack);
